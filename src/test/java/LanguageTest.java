@@ -1,0 +1,141 @@
+import java.lang.management.ManagementFactory;
+import java.lang.reflect.Constructor;
+import java.lang.reflect.Field;
+import java.lang.reflect.Method;
+import java.lang.reflect.Modifier;
+import java.nio.charset.StandardCharsets;
+import java.nio.file.Files;
+import java.nio.file.Path;
+import java.util.Set;
+import java.util.TreeSet;
+import java.util.regex.Matcher;
+import java.util.regex.Pattern;
+
+/** What of ../shared/LANGUAGE.md can be seen from outside: the face, words that are not in it, and the room. */
+public final class LanguageTest extends Check {
+    private static final String FACE = """
+            dial(int,int,int,int) dialOf(int,int) change(int,int,int) remake(int,int) sky(int,int)
+            spot(int,int,int) spotOf(int,int) ends(int) anew() state(int) feed(long,int) rules() chime() on(int)
+            when(int) prideFor(int) spotFor(int) late(int) middle() knots(int) seats(int,int) best(int) ith(int,int)
+            ways(int) order(int,int) bars(int,int) game(int) play(int) report(int,int,int,int) forget() lone(int)
+            liar() seed(int) lot() times(int,int) prove(int) row(int,int) alterRow(int,int,int) judge()
+            sheet(int,int,int) write(int,int,int) item(int,int,int) goAll(int,int,int) wouldBe(int,int,int)
+            shelf(int,int,int) taken(int,int) act(int,int,int) trace(int) many(int) keep() again()""";
+    private static final String NOT_IN_IT = "throw|throws|try|catch|synchronized|assert|import static|package|"
+            + "volatile|transient|native|strictfp|var|System\\.(?!arraycopy)\\w+|\\w+Exact|->|::|@|Random|Thread|"
+            + "Integer\\.valueOf|hashCode|toString|[^\\x00-\\x7f]";
+
+    public static void main(String[] args) throws Exception {
+        face();
+        nested();
+        words(Files.readString(Path.of(args[0]), StandardCharsets.ISO_8859_1));
+        room();
+        end("LanguageTest");
+    }
+
+    private static void face() {
+        Set<String> due = new TreeSet<>(Set.of(FACE.trim().split("\\s+"))), seen = new TreeSet<>();
+        Set<String> names = new TreeSet<>();
+        for (Method m : DialSquare.class.getDeclaredMethods()) {
+            if (Modifier.isPrivate(m.getModifiers())) continue;
+            is(Modifier.PUBLIC, m.getModifiers());
+            is(1, m.getReturnType() == int.class ? 1 : 0);
+            seen.add(m.getName() + parameters(m.getParameterTypes()));
+            names.add(m.getName());
+        }
+        is(51, seen.size());
+        is(1, due.equals(seen) ? 1 : 0);
+        for (Method m : DialSquare.class.getDeclaredMethods()) {
+            if (Modifier.isPrivate(m.getModifiers())) is(0, names.contains(m.getName()) ? 1 : 0);
+        }
+        Constructor<?>[] made = DialSquare.class.getDeclaredConstructors();
+        is(1, made.length);
+        is(Modifier.PUBLIC, made[0].getModifiers());
+        is(Modifier.PUBLIC | Modifier.FINAL, DialSquare.class.getModifiers());
+        int constants = 0;
+        for (Field f : DialSquare.class.getDeclaredFields()) {
+            if (Modifier.isPrivate(f.getModifiers())) continue;
+            is(Modifier.PUBLIC | Modifier.STATIC | Modifier.FINAL, f.getModifiers());
+            constants++;
+        }
+        is(4, constants);
+    }
+
+    private static String parameters(Class<?>[] types) {
+        StringBuilder s = new StringBuilder("(");
+        for (Class<?> t : types) s.append(s.length() > 1 ? "," : "").append(t.getName());
+        return s.append(')').toString();
+    }
+
+    /** Rules 2, 5 and 11. */
+    private static void nested() {
+        Class<?>[] inside = DialSquare.class.getDeclaredClasses();
+        is(1, inside.length < 12 ? 1 : 0);
+        for (Class<?> c : inside) {
+            is(1, Modifier.isStatic(c.getModifiers()) && !Modifier.isPublic(c.getModifiers()) ? 1 : 0);
+            members(c);
+        }
+        members(DialSquare.class);
+    }
+
+    private static void members(Class<?> c) {
+        int fields = 0;
+        for (Field f : c.getDeclaredFields()) {
+            if (Modifier.isStatic(f.getModifiers())) is(1, Modifier.isFinal(f.getModifiers()) ? 1 : 0);
+            else fields++;
+        }
+        is(1, fields <= 20 ? 1 : 0);
+        for (Method m : c.getDeclaredMethods()) is(1, m.getParameterCount() <= 7 ? 1 : 0);
+        for (Constructor<?> m : c.getDeclaredConstructors()) is(1, m.getParameterCount() <= 7 ? 1 : 0);
+    }
+
+    private static void words(String source) {
+        String code = source.replaceAll("(?s)/\\*.*?\\*/", "").replaceAll("//[^\n]*", "");
+        Matcher m = Pattern.compile("(?<!\\w)(" + NOT_IN_IT + ")").matcher(code);
+        while (m.find()) {
+            if (m.group().matches("\\w+") && m.end() < code.length() && Character.isJavaIdentifierPart(code.charAt(m.end()))) continue;
+            System.out.println("not in the language: " + m.group());
+            is(0, 1);
+        }
+        Set<String> imports = new TreeSet<>();
+        for (Matcher i = Pattern.compile("import ([\\w.]+);").matcher(code); i.find(); ) imports.add(i.group(1));
+        imports.removeAll(Set.of("java.util.Arrays", "java.util.ArrayList", "java.util.List"));
+        is(0, imports.size());
+    }
+
+    /** 512 calls of whatever makes most stay far within the room of 7.3 million fields and elements. */
+    private static void room() {
+        var threads = (com.sun.management.ThreadMXBean) ManagementFactory.getThreadMXBean();
+        StringBuilder text = new StringBuilder("dial if 1=1");
+        while (text.length() < 186) text.append(" or 1=1");
+        text.append(" keep;");
+        calls(text.toString());
+        long before = threads.getCurrentThreadAllocatedBytes();
+        calls(text.toString());
+        long bytes = threads.getCurrentThreadAllocatedBytes() - before;
+        System.out.println("LanguageTest: 512 calls and more make " + bytes + " bytes");
+        is(1, bytes < 4000000 ? 1 : 0);
+    }
+
+    private static void calls(String text) {
+        DialSquare x = full();
+        for (int i = 0; i < 512; i++) {
+            tape(x, text);
+            x.rules();
+            x.best(2);
+            x.bars(2, 31);
+            x.game(2);
+            x.spotFor(1);
+            x.late(1);
+            x.lone(1);
+            x.liar();
+            x.times(3, 1);
+            x.prove(2);
+            x.judge();
+            x.sheet(0, i % 5, 40);
+            x.act(0, 3, i);
+            x.keep();
+            x.again();
+        }
+    }
+}
