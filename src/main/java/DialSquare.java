@@ -147,7 +147,7 @@ public final class DialSquare {
     public int feed(long eight, int n) {
         if (!isIn(n, 1, 8)) return BAD;
         if (text.length > TAPE - n) return FULL;
-        return text.put(eight, n);
+        return text.append(eight, n);
     }
 
     public int rules() {
@@ -1047,7 +1047,7 @@ public final class DialSquare {
         private int count;
         private int size;
 
-        int put(long eight, int n) {
+        int append(long eight, int n) {
             for (int i = 0; i < n; i++) tape[length + i] = (byte) (eight >>> 8 * i);
             length += n;
             return length;
@@ -1077,7 +1077,7 @@ public final class DialSquare {
 
         private void cutWords() {
             int n = 0, from = 0;
-            while (from < length) {
+            for (int row = 0; row < TAPE && from < length; row++) {
                 int to = endOfRow(from);
                 if (tape[from] != ' ') {
                     places[n] = from;
@@ -1144,7 +1144,7 @@ public final class DialSquare {
             if (!readAll(open)) return false;
             for (int i = 0; i < TAPE && takes(OR); i++) {
                 if (!readAll(open)) return false;
-                put(OR);
+                emit(OR);
             }
             return true;
         }
@@ -1153,7 +1153,7 @@ public final class DialSquare {
             if (!readOne(open)) return false;
             for (int i = 0; i < TAPE && takes(AND); i++) {
                 if (!readOne(open)) return false;
-                put(AND);
+                emit(AND);
             }
             return true;
         }
@@ -1162,7 +1162,7 @@ public final class DialSquare {
             boolean turned = false;
             for (int i = 0; i < TAPE && takes(NOT); i++) turned = !turned;
             boolean stands = words[at] == OPENING ? readOpened(open + 1) : readCompared();
-            if (stands && turned) put(NOT);
+            if (stands && turned) emit(NOT);
             return stands;
         }
 
@@ -1183,9 +1183,9 @@ public final class DialSquare {
             int right = words[at];
             if (!isIn(right, 0, LESS - 1)) return false;
             at++;
-            put(left);
-            put(right);
-            put(sign);
+            emit(left);
+            emit(right);
+            emit(sign);
             return true;
         }
 
@@ -1195,8 +1195,8 @@ public final class DialSquare {
             return true;
         }
 
-        /** No sign of the code is put but for a word that was read, so there is room for all. */
-        private void put(int c) {
+        /** No sign of the code is emitted but for a word that was read, so there is room for all. */
+        private void emit(int c) {
             if (size >= TAPE) return;
             code[size] = c;
             size++;

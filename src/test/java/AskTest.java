@@ -103,6 +103,48 @@ public final class AskTest extends Check {
         is(1, y.chime());
         is(2, y.state(4));
         is(0, y.chime());
+        p14Argues();
+        p14Pays0();
+    }
+
+    /** In THE REST none is told that only argues; told by an ACT, it draws the others near. */
+    private static void p14Argues() {
+        DialSquare x = ruled(new DialSquare(), "dial argue;");
+        x.dial(NOON, 20, 0, 0);
+        x.dial(NOON, 10, 0, 1);
+        is(0, x.chime());
+        is(20, x.dialOf(0, 1));
+        is(10, x.dialOf(1, 1));
+        x.sheet(0, 0, 1);
+        x.write(0, 0, 1);
+        is(1, x.goAll(0, 0, 1));
+        is(20, x.dialOf(0, 1));
+        is(15, x.dialOf(1, 1));
+        x.write(0, 0, 2);
+        is(1, x.goAll(0, 0, 1));
+        is(18, x.dialOf(0, 1));
+        x.dial(NOON, 60, 0, 2);
+        is(2, x.goAll(0, 0, 1));
+        is(38, x.dialOf(2, 1));
+        is(17, x.dialOf(0, 1));
+    }
+
+    /** What PAYS 0 isn't set right, though it is told; nor what is right already. */
+    private static void p14Pays0() {
+        DialSquare x = new DialSquare();
+        x.dial(NOON, 54, 0, 0);
+        x.dial(NOON, 0, 0, 0);
+        x.sheet(0, 0, 2);
+        x.write(0, 0, 1);
+        x.write(0, 1, 2);
+        is(0, x.goAll(0, 0, 1));
+        is(54, x.dialOf(0, 1));
+        is(0, x.dialOf(0, 4));
+        x.change(1, 4, 1);
+        x.change(1, 1, 7);
+        is(0, x.goAll(0, 1, 1));
+        is(7, x.dialOf(1, 1));
+        is(1, x.dialOf(1, 4));
     }
 
     private static void p15() {
@@ -236,10 +278,19 @@ public final class AskTest extends Check {
         is(0, x.knots(2));
         is(1, x.knots(0));
         is(2, x.knots(1));
+        x.change(3, 4, 1);
+        is(3, x.knots(-1));
+        x.change(3, 4, 0);
         x.change(2, 4, 0);
         x.change(2, 1, 4);
         is(2, x.knots(1));
         is(5, x.knots(2));
+        int[] chain = {20, 0, 15, 5, 10};
+        for (int k = 0; k < 5; k++) x.change(k, 1, chain[k]);
+        is(1, x.knots(-1));
+        for (int k = 0; k < 5; k++) is(31, x.knots(k));
+        for (int k = 0; k < 5; k++) x.change(k, 4, 1);
+        is(0, x.knots(-1));
         for (int what : new int[] {-2, 5, 6, FAR[0], FAR[1]}) refuses(x, BAD, () -> x.knots(what));
     }
 
@@ -345,7 +396,10 @@ public final class AskTest extends Check {
         is(1, one().ways(1));
         is(3, one().ways(2));
         is(15, one().ways(4));
-        is(8, ruled(one(), "dial keep;").ways(3));
+        DialSquare y = ruled(one(), "dial keep;");
+        is(8, y.ways(3));
+        is(8, y.ways(3));
+        is(4, y.ways(2));
         is(1, new DialSquare().ways(4));
         is(1, over(square()).ways(4));
         for (int n : new int[] {-1, 5, FAR[0], FAR[1]}) refuses(x, BAD, () -> x.ways(n));
@@ -495,6 +549,11 @@ public final class AskTest extends Check {
         x.report(1, 1, 2, 2);
         x.report(2, 1, 10, 10);
         fit(x, 200, TALL, 0, 0);
+        x.sky(0, 4);
+        x.sky(1, 8);
+        x.report(1, 1, 6, 6);
+        x.report(2, 1, 10, 10);
+        fit(x, 200, TALL, 0, 0);
         x.report(0, 0, 5, 5);
         is(0, x.lone(0));
         for (int what = 1; what < 4; what++) {
@@ -519,7 +578,15 @@ public final class AskTest extends Check {
         is(0, x.liar());
         x.report(1, 0, 10, 10);
         is(0, x.liar());
-        x.report(0, 1, 0, 5);
+        x.forget();
+        x.report(0, 0, 10, 10);
+        x.report(0, 0, 0, 0);
+        is(0, x.liar());
+        x.forget();
+        x.report(0, 0, 0, 0);
+        x.report(1, 1, 0, 99);
+        x.report(0, 0, 90, 90);
+        is(0, x.liar());
         x.forget();
         x.report(0, 0, 0, 0);
         x.report(0, 0, 0, 5);
@@ -672,6 +739,10 @@ public final class AskTest extends Check {
         }
         x.alterRow(0, 0, 6);
         is(1, x.judge());
+        x.alterRow(0, 0, 5);
+        x.alterRow(0, 2, 16);
+        is(2, x.judge());
+        x.alterRow(0, 2, 4);
         x.alterRow(0, 0, 3);
         x.ends(2);
         is(3, x.judge());

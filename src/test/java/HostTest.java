@@ -111,6 +111,10 @@ public final class HostTest extends Check {
         is(4, z.state(4));
         refuses(z, 0, () -> z.goAll(0, 0, 3));
         is(-12, z.goAll(0, 0, 4));
+        DialSquare u = sheeted(5);
+        is(11, u.wouldBe(0, 0, 1));
+        is(11, u.goAll(0, 0, 1));
+        is(16, u.state(4));
         p44Refused();
     }
 
@@ -384,6 +388,11 @@ public final class HostTest extends Check {
         x.anew();
         x.again();
         is(2, x.state(0));
+        int fit = x.lone(0);
+        x.forget();
+        x.report(0, 0, 50, 50);
+        x.again();
+        is(fit, x.lone(0));
         p52Left(x);
     }
 

@@ -69,6 +69,12 @@ public final class SquareTest extends Check {
         shadesAre(x, 2, 8, 8, 1, 0);
         x.sky(0, 15);
         shadesAre(x, 2, 2, 2, 1, 0);
+        x.sky(0, 4);
+        shadesAre(x, 2, 6, 6, 1, 0);
+        x.sky(0, 11);
+        shadesAre(x, 2, 4, 4, 1, 0);
+        x.sky(0, 12);
+        shadesAre(x, 2, 2, 2, 1, 0);
         x.sky(0, 6);
         slipsAre(x, 0, 0, 0, 0, 0);
         x.spot(5, 0, 1);
@@ -238,6 +244,11 @@ public final class SquareTest extends Check {
         is(8, x.dialOf(1, 1));
         is(lag, x.dialOf(3, 1));
         is(0, x.anew());
+        x.dial(NOON, 0, 0, 0);
+        for (int k = 0; k < 6; k++) x.change(k, 4, 1);
+        is(63, x.state(4));
+        x.anew();
+        is(0, x.state(4));
     }
 
     private static void p11() {
@@ -319,6 +330,19 @@ public final class SquareTest extends Check {
         p13Kinds(x);
         p13Conditions();
         p13Facts();
+        p13Again();
+    }
+
+    /** What earlier texts told takes no room from later ones. */
+    private static void p13Again() {
+        DialSquare x = new DialSquare();
+        x.dial(NOON, 0, 0, 0);
+        for (int i = 0; i < 30; i++) {
+            is(1, told(x, "dial if " + "lag=2 or ".repeat(20) + "lag=0 keep;"));
+            is(1, x.dialOf(0, 9));
+            is(1, told(x, "dial if " + "lag=0 and ".repeat(18) + "lag=2 keep;"));
+            is(0, x.dialOf(0, 9));
+        }
     }
 
     private static void p13Faults(DialSquare x) {
@@ -329,6 +353,10 @@ public final class SquareTest extends Check {
         is(-106, told(x, "dial  "));
         is(-105, told(x, "dial dial set;"));
         is(-105, told(x, "dial sets;"));
+        is(-105, told(x, "dial setz;"));
+        is(-105, told(x, "dial seta;"));
+        is(-105, told(x, "dial 9set;"));
+        is(-105, told(x, "dial 0set;"));
         is(-108, told(x, "dial set"));
         is(-109, told(x, "dial set noon set;"));
         is(-109, told(x, "dial set;;"));
@@ -341,6 +369,15 @@ public final class SquareTest extends Check {
         is(-110, told(x, "dial if 3<00001 set;"));
         is(-110, told(x, "dial if 1 1 set;"));
         is(-112, told(x, "dial if 1 < if set;"));
+        is(-108, told(x, "dial if < < 1 set;"));
+        is(-112, told(x, "dial if 1 < < set;"));
+        is(-112, told(x, "dial if 1 < set;"));
+        is(-110, told(x, "dial if 1 not 1 set;"));
+        is(-110, told(x, "dial if 1 set;"));
+        is(-115, told(x, "dial if 1=1 or set;"));
+        is(-116, told(x, "dial if 1=1 and set;"));
+        is(-112, told(x, "dial if not set;"));
+        is(-109, told(x, "dial if ()set;"));
         is(-112, told(x, "dial if 1=1 5 set;"));
         is(-111, told(x, "dial if 1=1;"));
         is(-111, told(x, "dial if 1=1=1 set;"));
