@@ -32,25 +32,12 @@ public final class AskTest extends Check {
     }
 
     /** One noon, LAG 0, that PAYS 9. */
-    private static DialSquare one() {
-        DialSquare x = new DialSquare();
-        x.dial(NOON, 0, 0, 0);
-        return x;
-    }
-
-    private static DialSquare over(DialSquare x) {
-        x.ends(1);
-        x.chime();
-        return x;
-    }
-
-    private static DialSquare ruled(DialSquare x, String text) {
-        told(x, text);
-        return x;
+    private static Run one() {
+        return noons(1);
     }
 
     private static void p14() {
-        DialSquare x = new DialSquare();
+        Run x = new Run();
         x.dial(NOON, 10, 3, 0);
         x.dial(NOON, 3, 0, 2);
         x.dial(NOON, 0, 0, 4);
@@ -65,13 +52,13 @@ public final class AskTest extends Check {
         is(22, x.state(2));
         p14Slips();
         p14Rules();
-        DialSquare y = over(full());
+        Run y = over(full());
         is(1, y.state(3));
         refuses(y, STATE, y::chime);
     }
 
     private static void p14Slips() {
-        DialSquare x = new DialSquare();
+        Run x = new Run();
         x.dial(GUILD, 60, 0, 0);
         x.dial(LOW, 60, 0, 1);
         x.dial(SLIT, 60, 0, 2);
@@ -93,11 +80,11 @@ public final class AskTest extends Check {
     }
 
     private static void p14Rules() {
-        DialSquare x = square();
+        Run x = square();
         told(x, "noon keep; tall if chime=1 argue; tall argue;");
         is(11, x.chime());
         is(4, x.state(4));
-        DialSquare y = new DialSquare();
+        Run y = new Run();
         y.dial(NOON, 54, 0, 0);
         y.dial(NOON, 53, 0, 3);
         is(1, y.chime());
@@ -109,7 +96,7 @@ public final class AskTest extends Check {
 
     /** In THE REST none is told that only argues; told by an ACT, it draws the others near. */
     private static void p14Argues() {
-        DialSquare x = ruled(new DialSquare(), "dial argue;");
+        Run x = ruled(new Run(), "dial argue;");
         x.dial(NOON, 20, 0, 0);
         x.dial(NOON, 10, 0, 1);
         is(0, x.chime());
@@ -131,7 +118,7 @@ public final class AskTest extends Check {
 
     /** What PAYS 0 isn't set right, though it is told; nor what is right already. */
     private static void p14Pays0() {
-        DialSquare x = new DialSquare();
+        Run x = new Run();
         x.dial(NOON, 54, 0, 0);
         x.dial(NOON, 0, 0, 0);
         x.sheet(0, 0, 2);
@@ -148,7 +135,7 @@ public final class AskTest extends Check {
     }
 
     private static void p15() {
-        DialSquare x = square();
+        Run x = square();
         x.sky(1, 9);
         x.sky(2, 14);
         x.sky(3, 7);
@@ -161,15 +148,12 @@ public final class AskTest extends Check {
         for (int i = 0; i < 3; i++) sum += x.chime();
         is(32, sum);
         is(0, x.on(16));
-        DialSquare y = full();
-        String before = all(y);
-        y.on(16);
-        is(0, before.equals(all(y)) ? 0 : 1);
-        for (int n : new int[] {-1, 17, FAR[0], FAR[1]}) refuses(y, BAD, () -> y.on(n));
+        Run y = full();
+        unchanged(y, () -> y.on(16));
     }
 
     private static void p16() {
-        DialSquare x = square();
+        Run x = square();
         for (int k = 0; k < 5; k++) is(k, x.when(k));
         x.change(0, 4, 1);
         refuses(x, NONE, () -> x.when(0));
@@ -181,11 +165,10 @@ public final class AskTest extends Check {
         refuses(x, NONE, () -> x.when(1));
         is(NONE, x.when(4));
         is(2, x.when(2));
-        for (int k : new int[] {-1, 5, FAR[0], FAR[1]}) refuses(x, BAD, () -> x.when(k));
     }
 
     private static void p17() {
-        DialSquare x = square();
+        Run x = square();
         is(9, x.prideFor(0));
         is(3, x.dialOf(0, 2));
         told(x, "noon if pride=7 set; noon if pride>2 keep;");
@@ -197,12 +180,11 @@ public final class AskTest extends Check {
         x.change(0, 4, 0);
         told(x, "noon keep;");
         is(0, x.prideFor(0));
-        for (int k : new int[] {-1, 5, FAR[0], FAR[1]}) refuses(x, BAD, () -> x.prideFor(k));
         is(0, over(square()).prideFor(1));
     }
 
     private static void p18() {
-        DialSquare x = new DialSquare();
+        Run x = new Run();
         x.dial(TALL, 0, 9, 0);
         x.dial(LOW, 0, 0, 1);
         is(0, x.spotFor(1));
@@ -211,12 +193,11 @@ public final class AskTest extends Check {
         is(1, x.dialOf(1, 3));
         for (int f = 0; f < 5; f++) x.spot(f, 0, 5);
         is(5, x.spotFor(1));
-        for (int k : new int[] {-1, 2, FAR[0], FAR[1]}) refuses(x, BAD, () -> x.spotFor(k));
         is(0, over(square()).spotFor(3));
     }
 
     private static void p19() {
-        DialSquare x = new DialSquare();
+        Run x = new Run();
         x.dial(LOW, 49, 0, 5);
         told(x, "dial keep;");
         refuses(x, NONE, () -> x.late(0));
@@ -239,15 +220,14 @@ public final class AskTest extends Check {
         is(1, x.late(0));
         x.change(0, 4, 1);
         is(1, x.late(0));
-        for (int k : new int[] {-1, 1, FAR[0], FAR[1]}) refuses(x, BAD, () -> x.late(k));
-        DialSquare y = new DialSquare();
+        Run y = new Run();
         y.dial(LOW, 49, 0, 0);
         y.spot(0, 0, 9);
         is(NONE, y.late(0));
     }
 
     private static void p20() {
-        DialSquare x = new DialSquare();
+        Run x = new Run();
         refuses(x, NONE, x::middle);
         x.dial(NOON, 10, 0, 0);
         is(0, x.middle());
@@ -264,7 +244,7 @@ public final class AskTest extends Check {
     }
 
     private static void p21() {
-        DialSquare x = new DialSquare();
+        Run x = new Run();
         is(0, x.knots(-1));
         for (int lag : new int[] {0, 10, 5, 30, 36}) x.dial(NOON, lag, 0, 0);
         is(3, x.knots(-1));
@@ -291,11 +271,10 @@ public final class AskTest extends Check {
         for (int k = 0; k < 5; k++) is(31, x.knots(k));
         for (int k = 0; k < 5; k++) x.change(k, 4, 1);
         is(0, x.knots(-1));
-        for (int what : new int[] {-2, 5, 6, FAR[0], FAR[1]}) refuses(x, BAD, () -> x.knots(what));
     }
 
     private static void p22() {
-        DialSquare x = new DialSquare();
+        Run x = new Run();
         is(0, x.seats(0, 0));
         is(0, x.seats(99, 1));
         x.spot(0, 1, 3);
@@ -323,16 +302,14 @@ public final class AskTest extends Check {
         for (int f = 0; f < 6; f++) x.spot(f, 0, 1);
         is(0, x.seats(0, 0));
         is(0, x.seats(0, 1));
-        DialSquare y = new DialSquare();
+        Run y = new Run();
         y.spot(4, 1, 4);
         y.spot(5, 1, 4);
         is(16, y.seats(0, 1));
-        for (int most : new int[] {-1, 100, FAR[0], FAR[1]}) refuses(y, BAD, () -> y.seats(most, 0));
-        for (int what : new int[] {-1, 2, FAR[0], FAR[1]}) refuses(y, BAD, () -> y.seats(0, what));
     }
 
     private static void p23() {
-        DialSquare x = square();
+        Run x = square();
         x.sky(1, 5);
         int[] most = {0, 14, 26, 39, 53};
         for (int n = 0; n < 5; n++) is(most[n], x.best(n));
@@ -341,18 +318,15 @@ public final class AskTest extends Check {
         is(14, over(square()).best(4) + 14);
         is(9, one().best(4));
         is(0, ruled(one(), "dial keep;").best(2));
-        is(0, new DialSquare().best(4));
-        for (int n : new int[] {-1, 5, FAR[0], FAR[1]}) refuses(x, BAD, () -> x.best(n));
-        DialSquare y = full();
-        String before = all(y);
-        y.best(4);
-        is(0, before.equals(all(y)) ? 0 : 1);
+        is(0, new Run().best(4));
+        Run y = full();
+        unchanged(y, () -> y.best(4));
         p23Argues();
     }
 
     /** Whoever argues draws near those next to it, but for who is right, or so near that half is 0. */
     private static void p23Argues() {
-        DialSquare x = ruled(new DialSquare(), "dial argue;");
+        Run x = ruled(new Run(), "dial argue;");
         x.dial(NOON, 10, 0, 2);
         x.dial(NOON, 20, 0, 3);
         x.dial(NOON, 30, 0, 1);
@@ -373,7 +347,7 @@ public final class AskTest extends Check {
     }
 
     private static void p24() {
-        DialSquare x = square();
+        Run x = square();
         x.sky(1, 5);
         int[] first = {3, 4, -99, 2};
         for (int i : new int[] {0, 1, 3}) is(first[i], x.ith(4, i));
@@ -384,29 +358,26 @@ public final class AskTest extends Check {
         x.ends(2);
         is(NONE, x.ith(4, 2));
         is(NONE, over(square()).ith(1, 0));
-        for (int n : new int[] {-1, 5, FAR[0], FAR[1]}) refuses(x, BAD, () -> x.ith(n, 0));
-        for (int i : new int[] {-1, 4, FAR[0], FAR[1]}) refuses(x, BAD, () -> x.ith(4, i));
     }
 
     private static void p25() {
-        DialSquare x = square();
+        Run x = square();
         x.sky(1, 5);
         int[] ways = {1, 1, 4, -99, 1};
         for (int n : new int[] {0, 1, 2, 4}) is(ways[n], x.ways(n));
         is(1, one().ways(1));
         is(3, one().ways(2));
         is(15, one().ways(4));
-        DialSquare y = ruled(one(), "dial keep;");
+        Run y = ruled(one(), "dial keep;");
         is(8, y.ways(3));
         is(8, y.ways(3));
         is(4, y.ways(2));
-        is(1, new DialSquare().ways(4));
+        is(1, new Run().ways(4));
         is(1, over(square()).ways(4));
-        for (int n : new int[] {-1, 5, FAR[0], FAR[1]}) refuses(x, BAD, () -> x.ways(n));
     }
 
     private static void p26() {
-        DialSquare x = square();
+        Run x = square();
         is(0, x.order(4, 0));
         is(1, x.order(4, 2));
         is(2, x.order(4, 3));
@@ -420,18 +391,16 @@ public final class AskTest extends Check {
         is(2, x.order(2, 22));
         told(x, "noon keep;");
         is(NONE, x.order(4, 1));
-        for (int n : new int[] {-1, 5, FAR[0], FAR[1]}) refuses(x, BAD, () -> x.order(n, 0));
-        for (int set : new int[] {-1, 32, 33, FAR[0], FAR[1]}) refuses(x, BAD, () -> x.order(1, set));
-        is(BAD, new DialSquare().order(1, 1));
+        is(BAD, new Run().order(1, 1));
         is(NONE, over(square()).order(4, 2));
-        DialSquare y = new DialSquare();
+        Run y = new Run();
         for (int k = 0; k < 6; k++) y.dial(NOON, 0, 0, 0);
         is(NONE, y.order(1, 63));
         is(BAD, y.order(1, 64));
     }
 
     private static void p27() {
-        DialSquare x = square();
+        Run x = square();
         refuses(x, NONE, () -> x.bars(4, 31));
         refuses(x, NONE, () -> x.bars(1, 31));
         refuses(x, NONE, () -> x.bars(0, 0));
@@ -443,12 +412,10 @@ public final class AskTest extends Check {
         is(NONE, x.bars(4, 13));
         is(2, x.bars(2, 13));
         is(NONE, x.bars(3, 13));
-        for (int n : new int[] {-1, 5, FAR[0], FAR[1]}) refuses(x, BAD, () -> x.bars(n, 0));
-        for (int set : new int[] {-1, 32, FAR[0], FAR[1]}) refuses(x, BAD, () -> x.bars(1, set));
     }
 
     private static void p28() {
-        DialSquare x = square();
+        Run x = square();
         x.sky(1, 5);
         is(14, x.game(1));
         is(15, x.game(2));
@@ -456,40 +423,30 @@ public final class AskTest extends Check {
         is(9, one().game(1));
         is(9, one().game(2));
         is(0, over(square()).game(3));
-        is(0, new DialSquare().game(4));
+        is(0, new Run().game(4));
         x.ends(1);
         is(14, x.game(4));
-        for (int n : new int[] {0, -1, 5, FAR[0], FAR[1]}) refuses(x, BAD, () -> x.game(n));
-        DialSquare y = full();
-        String before = all(y);
-        y.game(4);
-        y.play(4);
-        is(0, before.equals(all(y)) ? 0 : 1);
+        Run y = full();
+        unchanged(y, () -> y.game(4));
+        unchanged(y, () -> y.play(4));
     }
 
     private static void p29() {
-        DialSquare x = square();
+        Run x = square();
         x.sky(1, 5);
         is(4, x.play(1));
         is(4, x.play(2));
         is(4, x.play(4));
         is(1, one().play(1));
-        is(0, new DialSquare().play(4));
+        is(0, new Run().play(4));
         is(0, ruled(one(), "dial keep;").play(3));
-        for (int n : new int[] {0, -1, 5, FAR[0], FAR[1]}) refuses(x, BAD, () -> x.play(n));
-        DialSquare y = over(square());
+        Run y = over(square());
         refuses(y, NONE, () -> y.play(1));
         refuses(y, BAD, () -> y.play(0));
     }
 
     private static void p30() {
-        DialSquare x = full();
-        for (int k : new int[] {-1, 16, FAR[0], FAR[1]}) refuses(x, BAD, () -> x.report(k, 0, 0, 0));
-        for (int asked : new int[] {-1, 2, FAR[0], FAR[1]}) refuses(x, BAD, () -> x.report(0, asked, 0, 0));
-        for (int v : new int[] {-1, 100, FAR[0], FAR[1]}) {
-            refuses(x, BAD, () -> x.report(0, 0, v, 99));
-            refuses(x, BAD, () -> x.report(0, 0, 0, v));
-        }
+        Run x = full();
         refuses(x, BAD, () -> x.report(0, 0, 5, 4));
         is(1, x.report(0, 1, 0, 0));
         is(2, x.report(15, 0, 99, 99));
@@ -502,7 +459,7 @@ public final class AskTest extends Check {
     }
 
     private static void p31() {
-        DialSquare x = full();
+        Run x = full();
         is(1, x.forget());
         is(0, x.many(3));
         is(0, x.forget());
@@ -513,7 +470,7 @@ public final class AskTest extends Check {
     }
 
     /** As many LONE DIALS FIT; the first of them; all REPORTS are then forgotten. */
-    private static void fit(DialSquare x, int many, int kind, int shade, int lag) {
+    private static void fit(Run x, int many, int kind, int shade, int lag) {
         is(many, x.lone(0));
         is(kind, x.lone(1));
         is(shade, x.lone(2));
@@ -522,7 +479,7 @@ public final class AskTest extends Check {
     }
 
     private static void p32() {
-        DialSquare x = new DialSquare();
+        Run x = new Run();
         fit(x, 500, NOON, 0, 0);
         x.report(0, 0, 30, 39);
         fit(x, 50, NOON, 0, 30);
@@ -560,8 +517,7 @@ public final class AskTest extends Check {
             int w = what;
             refuses(x, NONE, () -> x.lone(w));
         }
-        for (int what : new int[] {-1, 4, FAR[0], FAR[1]}) refuses(x, BAD, () -> x.lone(what));
-        DialSquare y = ruled(one(), "dial set;");
+        Run y = ruled(one(), "dial set;");
         y.report(15, 0, 99, 99);
         int many = y.lone(0);
         y.change(0, 3, 5);
@@ -570,7 +526,7 @@ public final class AskTest extends Check {
     }
 
     private static void p33() {
-        DialSquare x = new DialSquare();
+        Run x = new Run();
         refuses(x, NONE, x::liar);
         x.report(0, 0, 0, 0);
         refuses(x, NONE, x::liar);
@@ -601,7 +557,7 @@ public final class AskTest extends Check {
     }
 
     private static void p34() {
-        DialSquare x = full();
+        Run x = full();
         is(77, x.seed(FAR[0]));
         is(FAR[0], x.seed(FAR[1]));
         is(FAR[1], x.seed(0));
@@ -609,7 +565,7 @@ public final class AskTest extends Check {
     }
 
     private static void p35() {
-        DialSquare x = square(), y = square();
+        Run x = square(), y = square();
         int z = -1234567;
         x.seed(z);
         y.sheet(0, 0, 1);
@@ -626,9 +582,9 @@ public final class AskTest extends Check {
     }
 
     private static void p36() {
-        is(3, new DialSquare().times(3, 0));
-        is(0, new DialSquare().times(3, 1));
-        DialSquare x = one();
+        is(3, new Run().times(3, 0));
+        is(0, new Run().times(3, 1));
+        Run x = one();
         x.ends(1);
         int z = x.seed(1), paid = 0;
         for (int i = 0; i < 40; i++) {
@@ -640,12 +596,8 @@ public final class AskTest extends Check {
         is(40, x.times(40, 0));
         is(0, x.times(40, 10));
         is(1, x.seed(1));
-        DialSquare y = full();
-        String before = all(y);
-        y.times(40, 30);
-        is(0, before.equals(all(y)) ? 0 : 1);
-        for (int n : new int[] {0, -1, 41, FAR[0], FAR[1]}) refuses(y, BAD, () -> y.times(n, 0));
-        for (int v : new int[] {-1, 1000, FAR[0], FAR[1]}) refuses(y, BAD, () -> y.times(1, v));
+        Run y = full();
+        unchanged(y, () -> y.times(40, 30));
         is(0, y.times(1, 999));
         is(2, over(square()).times(2, 0));
         is(0, over(square()).times(2, 1));
@@ -654,7 +606,7 @@ public final class AskTest extends Check {
 
     /** Each time begins as it is now, and goes to the END. */
     private static void p36All() {
-        DialSquare x = square(), y = square();
+        Run x = square(), y = square();
         x.seed(99);
         y.seed(99);
         int most = 0;
@@ -672,13 +624,12 @@ public final class AskTest extends Check {
     }
 
     private static void p37() {
-        DialSquare x = square();
+        Run x = square();
         x.sky(1, 5);
         is(4, x.prove(4));
         is(4, x.many(4));
         is(2, x.prove(2));
         is(2, x.many(4));
-        for (int n : new int[] {-1, 5, FAR[0], FAR[1]}) refuses(x, BAD, () -> x.prove(n));
         x.ends(1);
         is(1, x.prove(4));
         is(0, x.prove(0));
@@ -691,7 +642,7 @@ public final class AskTest extends Check {
     }
 
     private static void p38() {
-        DialSquare x = square();
+        Run x = square();
         x.sky(1, 5);
         refuses(x, -9, () -> x.row(0, 0));
         x.prove(4);
@@ -703,12 +654,10 @@ public final class AskTest extends Check {
             worth += x.row(k, 1);
         }
         is(53, worth);
-        for (int k : new int[] {-1, 4, FAR[0], FAR[1]}) refuses(x, -9, () -> x.row(k, 0));
-        for (int what : new int[] {-1, 3, FAR[0], FAR[1]}) refuses(x, -9, () -> x.row(0, what));
     }
 
     private static void p39() {
-        DialSquare x = square();
+        Run x = square();
         x.prove(2);
         int was = x.row(1, 2);
         is(was, x.alterRow(1, 2, FAR[0]));
@@ -716,12 +665,10 @@ public final class AskTest extends Check {
         is(was, x.row(1, 2));
         x.alterRow(0, 1, -9);
         is(-9, x.row(0, 1));
-        for (int k : new int[] {-1, 2, FAR[0], FAR[1]}) refuses(x, -9, () -> x.alterRow(k, 0, 0));
-        for (int what : new int[] {-1, 3, FAR[0], FAR[1]}) refuses(x, -9, () -> x.alterRow(0, what, 0));
     }
 
     private static void p40() {
-        DialSquare x = square();
+        Run x = square();
         is(0, x.judge());
         x.sky(1, 5);
         x.prove(4);

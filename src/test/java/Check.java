@@ -1,64 +1,102 @@
+import java.io.IOException;
+import java.nio.file.Files;
+import java.nio.file.Path;
+import java.util.ArrayList;
+import java.util.List;
 import java.util.function.IntSupplier;
+import java.util.function.IntUnaryOperator;
 
 /** What the tests of the promises share: what is due, refusals, and squares to begin with. */
 abstract class Check {
     static final int BAD = -1, FULL = -2, NONE = -3, STATE = -4;
+    static final int NO_ROW = -9, NOTHING = -11, OUTSIDE = -12, OTHER = -13, BELOW = -14, PARTED = -15;
     static final int NOON = 1, TALL = 2, GUILD = 3, LOW = 4, SLIT = 5;
+    static final int LAG = 1, PRIDE = 2, SPOT = 3, RIGHT = 4, SHADES = 5, SLIPS = 6, PAYS = 7, MAY = 8, WILL = 9;
     static final int[] FAR = {Integer.MIN_VALUE, Integer.MAX_VALUE};
 
-    static int wrong;
-    static int checks;
+    private static final List<String> sentences = new ArrayList<>();
+    private static int wrong;
+    private static int checks;
+
+    /** The words of the document that the checks behind this are about. */
+    static void says(String words) {
+        sentences.add(words);
+    }
 
     static void is(long want, long got) {
         checks++;
-        if (want == got) return;
+        if (want != got) fails("answered " + got + ", due is " + want);
+    }
+
+    static void holds(boolean so) {
+        is(1, so ? 1 : 0);
+    }
+
+    static void fails(String what) {
         wrong++;
-        StringBuilder where = new StringBuilder();
+        StringBuilder where = new StringBuilder(what);
         for (StackTraceElement e : new Throwable().getStackTrace()) {
-            if (e.getMethodName().matches("p[0-9].*")) where.append(' ').append(e.getMethodName()).append(':').append(e.getLineNumber());
+            boolean own = e.getClassName().endsWith("Test") && !e.getMethodName().matches("main|lambda.*");
+            if (own) where.append(' ').append(e.getMethodName()).append(':').append(e.getLineNumber());
         }
-        System.out.println("answered " + got + ", due is " + want + where);
+        if (!sentences.isEmpty()) where.append(" \"").append(sentences.get(sentences.size() - 1)).append('"');
+        System.out.println(where);
     }
 
     static void end(String test) {
+        notInDocument();
         System.out.println(test + ": " + checks + " checks, " + wrong + " wrong");
         if (wrong != 0) System.exit(1);
     }
 
-    /** A refusal, and that nothing that can be asked has changed. */
-    static void refuses(DialSquare x, int want, IntSupplier call) {
-        String before = all(x);
-        is(want, call.getAsInt());
-        is(0, before.equals(all(x)) ? 0 : 1);
+    /** Tells which of the quoted words the document (-Ddoc=) doesn't have any more: what is due may have changed. */
+    private static void notInDocument() {
+        String path = System.getProperty("doc");
+        if (path == null) return;
+        try {
+            String document = Files.readString(Path.of(path));
+            for (String s : sentences) {
+                if (!document.contains(s)) System.out.println("note: the document doesn't say: " + s);
+            }
+        } catch (IOException e) {
+            System.out.println("note: the document can't be read: " + e);
+        }
     }
 
-    /** All that can be asked without a change (but what is kept). */
-    static String all(DialSquare x) {
-        StringBuilder s = new StringBuilder();
-        for (int w = 0; w < 7; w++) s.append(x.state(w)).append(' ').append(x.many(w)).append(' ');
-        for (int k = 0; k < 6; k++) for (int w = 0; w < 10; w++) s.append(x.dialOf(k, w)).append(' ');
-        for (int f = 0; f < 6; f++) for (int w = 0; w < 3; w++) s.append(x.spotOf(f, w)).append(' ');
-        for (int c = 0; c < 16; c++) {
-            int was = x.sky(c, 0);
-            x.sky(c, was);
-            s.append(was).append(' ');
+    /** A refusal, that changes nothing. */
+    static void refuses(Run x, int want, IntSupplier call) {
+        is(want, x.asked(call));
+    }
+
+    /** An answer, that changes nothing. */
+    static void asks(Run x, int want, IntSupplier call) {
+        is(want, x.asked(call));
+    }
+
+    /** Whatever it answers. */
+    static void unchanged(Run x, IntSupplier call) {
+        x.asked(call);
+    }
+
+    /** At least and most, and next to them inside, a number is taken; below and above it is BAD. */
+    static void takes(Run x, int least, int most, IntUnaryOperator call) {
+        takes(x, least, most, BAD, BAD, call);
+    }
+
+    static void takes(Run x, int least, int most, int below, int above, IntUnaryOperator call) {
+        refuses(x, below, () -> call.applyAsInt(least - 1));
+        refuses(x, below, () -> call.applyAsInt(FAR[0]));
+        refuses(x, above, () -> call.applyAsInt(most + 1));
+        refuses(x, above, () -> call.applyAsInt(FAR[1]));
+        for (int v : new int[] {least, Math.min(least + 1, most), Math.max(most - 1, least), most}) {
+            int answer = x.tried(() -> call.applyAsInt(v));
+            holds(answer != below && answer != above);
         }
-        int z = x.seed(0);
-        x.seed(z);
-        s.append(z).append(' ').append(x.on(16)).append(' ').append(x.liar()).append(' ');
-        for (int w = 0; w < 4; w++) s.append(x.lone(w)).append(' ');
-        for (int k = 0; k < 4; k++) for (int w = 0; w < 3; w++) s.append(x.row(k, w)).append(' ');
-        for (int i = 0; i < 12; i++) s.append(x.trace(i)).append(' ');
-        for (int h = 0; h < 4; h++) {
-            for (int as = 0; as < 15; as++) s.append(x.taken(h, as)).append(' ');
-            for (int sort = 0; sort < 5; sort++) for (int i = 0; i < 41; i++) s.append(x.item(h, sort, i)).append(' ');
-        }
-        return s.toString();
     }
 
     /** Five DIALS; SUN is 1, CLOUD 2; LAGS 10, 20, 5, 30, 24; PAIRS are 0 and 2, 1 and 4. */
-    static DialSquare square() {
-        DialSquare x = new DialSquare();
+    static Run square() {
+        Run x = new Run();
         x.spot(0, 0, 1);
         x.spot(1, 1, 2);
         x.spot(4, 1, 6);
@@ -71,8 +109,8 @@ abstract class Check {
     }
 
     /** As square(), and with something of everything else. */
-    static DialSquare full() {
-        DialSquare x = square();
+    static Run full() {
+        Run x = square();
         x.sheet(0, 0, 5);
         x.write(0, 0, 1);
         x.write(0, 1, 3);
@@ -82,15 +120,63 @@ abstract class Check {
         x.act(0, 3, 7);
         x.prove(2);
         x.report(3, 0, 20, 60);
-        tape(x, "low if lag>40 argue; guild keep;");
-        x.rules();
+        told(x, "low if lag>40 argue; guild keep;");
+        x.keep();
         x.seed(77);
         x.chime();
         tape(x, "dial");
         return x;
     }
 
-    static void tape(DialSquare x, String text) {
+    /** So many noons of LAG and PRIDE 0, on SPOT 0. */
+    static Run noons(int n) {
+        Run x = new Run();
+        for (int k = 0; k < n; k++) x.dial(NOON, 0, 0, 0);
+        return x;
+    }
+
+    /** One DIAL of a KIND, with PRIDE 0. */
+    static Run one(int kind, int lag, int spot) {
+        Run x = new Run();
+        x.dial(kind, lag, 0, spot);
+        return x;
+    }
+
+    /** Three noons that AGREE and keep, so that each CHIME is WORTH 1, whatever is told. */
+    static Run clockwork() {
+        return ruled(noons(3), "dial keep;");
+    }
+
+    static Run ruled(Run x, String text) {
+        told(x, text);
+        return x;
+    }
+
+    static Run over(Run x) {
+        x.ends(x.state(0) + 1);
+        x.chime();
+        return x;
+    }
+
+    /** With a SHEET 0 of such bytes. */
+    static Run sheeted(Run x, int... bytes) {
+        x.sheet(0, 0, bytes.length);
+        for (int i = 0; i < bytes.length; i++) x.write(0, i, bytes[i]);
+        return x;
+    }
+
+    /** What the CHIME that comes is WORTH behind an ACT; SHEET 3 is used for it. */
+    static int acted(Run x, int act) {
+        x.sheet(3, 0, 1);
+        x.write(3, 0, act);
+        return x.goAll(3, 0, 1);
+    }
+
+    static void chimes(Run x, int n) {
+        for (int i = 0; i < n; i++) x.chime();
+    }
+
+    static void tape(Run x, String text) {
         for (int i = 0; i < text.length(); i += 8) {
             int n = Math.min(8, text.length() - i);
             long eight = 0;
@@ -99,7 +185,7 @@ abstract class Check {
         }
     }
 
-    static int told(DialSquare x, String text) {
+    static int told(Run x, String text) {
         tape(x, text);
         return x.rules();
     }

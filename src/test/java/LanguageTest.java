@@ -103,39 +103,53 @@ public final class LanguageTest extends Check {
         is(0, imports.size());
     }
 
-    /** 512 calls of whatever makes most stay far within the room of 7.3 million fields and elements. */
+    /** Objects that are called 512 times stay far within the room, of 7.3 million fields and elements, of a run of many. */
     private static void room() {
         var threads = (com.sun.management.ThreadMXBean) ManagementFactory.getThreadMXBean();
-        StringBuilder text = new StringBuilder("dial if 1=1");
-        while (text.length() < 186) text.append(" or 1=1");
-        text.append(" keep;");
-        calls(text.toString());
-        long before = threads.getCurrentThreadAllocatedBytes();
-        calls(text.toString());
-        long bytes = threads.getCurrentThreadAllocatedBytes() - before;
-        System.out.println("LanguageTest: 512 calls and more make " + bytes + " bytes");
-        is(1, bytes < 4000000 ? 1 : 0);
+        for (int time = 0; time < 2; time++) {
+            long before = threads.getCurrentThreadAllocatedBytes();
+            dearest();
+            long told = threads.getCurrentThreadAllocatedBytes();
+            asked();
+            long all = threads.getCurrentThreadAllocatedBytes();
+            if (time == 0) continue;
+            System.out.println("LanguageTest: 512 calls make " + (told - before) + " bytes, or " + (all - told));
+            is(1, told - before < 200000 ? 1 : 0);
+            is(1, all - told < 20000 ? 1 : 0);
+        }
     }
 
-    private static void calls(String text) {
-        DialSquare x = full();
-        for (int i = 0; i < 512; i++) {
-            tape(x, text);
-            x.rules();
-            x.best(2);
+    /** Of all calls rules() alone makes anything. */
+    private static void dearest() {
+        DialSquare x = new DialSquare();
+        for (int i = 0; i < 256; i++) {
+            x.feed(0x3b74657320776f6cL, 8);
+            is(1, x.rules());
+        }
+    }
+
+    private static void asked() {
+        DialSquare x = new DialSquare();
+        for (int k = 0; k < 6; k++) x.dial(1 + k % 5, 5 * k, k, k);
+        for (int i = 0; i < 28; i++) {
+            x.best(4);
             x.bars(2, 31);
             x.game(2);
             x.spotFor(1);
             x.late(1);
+            x.middle();
+            x.knots(1);
+            x.seats(9, 1);
+            x.report(i % 16, 0, 0, 99);
             x.lone(1);
             x.liar();
             x.times(3, 1);
             x.prove(2);
             x.judge();
             x.sheet(0, i % 5, 40);
+            x.shelf(0, 0, i % 6);
             x.act(0, 3, i);
             x.keep();
-            x.again();
         }
     }
 }
