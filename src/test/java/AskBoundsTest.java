@@ -49,6 +49,11 @@ public final class AskBoundsTest extends Check {
         is(3, x.chime());
         is(8 + 16, x.state(4));
         is(54, x.dialOf(2, LAG));
+        Run y = ruled(noons(2), "dial argue;");
+        y.change(1, LAG, 40);
+        is(0, y.chime());
+        is(40, y.dialOf(1, LAG));
+        asks(y, 0, () -> y.on(16));
     }
 
     private static void on() {
@@ -719,13 +724,6 @@ public final class AskBoundsTest extends Check {
             is(was, x.seed(z));
             was = z;
         }
-    }
-
-    /** So many noons that PAY 9, 8, .. and don't AGREE, so that what a CHIME is WORTH tells the ACT: 10 less it. */
-    private static Run spread(int n) {
-        Run x = noons(n);
-        for (int k = 0; k < n; k++) x.change(k, LAG, 6 * k);
-        return x;
     }
 
     /** z * 1103515245 + 12345 by longs, of which an int's 32 bits are left. */

@@ -135,6 +135,13 @@ abstract class Check {
         return x;
     }
 
+    /** So many noons that PAY 9, 8, .. and don't AGREE, so that what a CHIME is WORTH tells the ACT: 10 less it. */
+    static Run spread(int n) {
+        Run x = noons(n);
+        for (int k = 0; k < n; k++) x.change(k, LAG, 6 * k);
+        return x;
+    }
+
     /** One DIAL of a KIND, with PRIDE 0. */
     static Run one(int kind, int lag, int spot) {
         Run x = new Run();

@@ -187,6 +187,22 @@ public final class EmptyFullTest extends Check {
         refuses(x, FULL, () -> x.report(0, 0, 0, 0));
         is(6, x.forget());
         is(0, x.report(0, 0, 0, 0));
+        for (int r = 0; r < 6; r++) sixReportsKept(r);
+    }
+
+    /** One of six tells all; it is kept by what it is behind, what it asks, LEAST and MOST. */
+    private static void sixReportsKept(int which) {
+        int[][] told = {{0, 0, 30, 30, 50, 1}, {15, 1, 10, 10, 100, 5}, {1, 0, 17, 17, 3, 4}, {0, 0, 90, 99, 50, 1}};
+        for (int[] t : told) {
+            Run x = new Run();
+            for (int r = 0; r < 6; r++) x.report(r == which ? t[0] : 0, r == which ? t[1] : 0, r == which ? t[2] : 0, r == which ? t[3] : 99);
+            x.keep();
+            x.forget();
+            for (int r = 0; r < 6; r++) x.report(7, 1 - t[1], 50, 50);
+            x.again();
+            is(t[4], x.lone(0));
+            is(t[5], x.lone(1));
+        }
     }
 
     private static void noRules() {

@@ -5,6 +5,10 @@ public final class HostBoundsTest extends Check {
         0, 1, -1, 2, 3, -3, 7, 100, FAR[0], FAR[1], FAR[0] + 1, FAR[1] - 1, FAR[0] + 2, FAR[0] + 3, 1 << 30, -(1 << 30),
         (1 << 29) - 1, 1 << 29, -(1 << 29), -(1 << 29) - 1};
 
+    private interface Items {
+        int of(Run x, int sheet, int i, int n);
+    }
+
     public static void main(String[] args) {
         prove();
         rows();
@@ -306,25 +310,31 @@ public final class HostBoundsTest extends Check {
 
     private static void goAllTaken() {
         says("BAD: no such SHEET, n; -13; -11; -12: what stood ahead was done.");
+        itemsTaken(Run::goAll);
+    }
+
+    /** What goAll() and wouldBe() refuse alike. */
+    private static void itemsTaken(Items items) {
         Run x = clockwork();
         x.ends(16);
         for (int sheet = 0; sheet < 4; sheet++) x.sheet(sheet, 0, 20);
-        takes(x, 0, 3, sheet -> x.goAll(sheet, 0, 1));
-        takes(x, 0, 20, n -> x.goAll(0, 0, n));
-        takes(x, 0, 20, n -> x.goAll(3, 20, n));
+        takes(x, 0, 3, sheet -> items.of(x, sheet, 0, 1));
+        takes(x, 0, 20, n -> items.of(x, 0, 0, n));
+        takes(x, 0, 20, n -> items.of(x, 3, 20, n));
         for (int sort = 1; sort < 5; sort++) {
             x.sheet(1, sort, 2);
-            for (int n : new int[] {0, 1, 3, 20}) {
-                for (int i : new int[] {0, -1, 2, FAR[1]}) refuses(x, OTHER, () -> x.goAll(1, i, n));
-            }
-            for (int n : new int[] {-1, 21}) refuses(x, BAD, () -> x.goAll(1, 0, n));
+            itemsRefused(items, x, 1, OTHER);
         }
         x.sheet(2, -1, 0);
-        for (int n : new int[] {0, 1, 20}) {
-            for (int i : new int[] {0, -1, 2, FAR[1]}) refuses(x, NOTHING, () -> x.goAll(2, i, n));
+        itemsRefused(items, x, 2, NOTHING);
+        for (int n : new int[] {-1, 0, 1, 21}) refuses(x, BAD, () -> items.of(x, 4, 0, n));
+    }
+
+    private static void itemsRefused(Items items, Run x, int sheet, int refusal) {
+        for (int n : new int[] {0, 1, 3, 20}) {
+            for (int i : new int[] {0, -1, 2, FAR[1]}) refuses(x, refusal, () -> items.of(x, sheet, i, n));
         }
-        for (int n : new int[] {-1, 21}) refuses(x, BAD, () -> x.goAll(2, 0, n));
-        for (int n : new int[] {-1, 0, 1, 21}) refuses(x, BAD, () -> x.goAll(4, 0, n));
+        for (int n : new int[] {-1, 21}) refuses(x, BAD, () -> items.of(x, sheet, 0, n));
     }
 
     private static void goAllPlaces() {
@@ -365,13 +375,6 @@ public final class HostBoundsTest extends Check {
         }
     }
 
-    /** So many noons that PAY 9, 8, .. and don't AGREE. */
-    private static Run spread(int n) {
-        Run x = noons(n);
-        for (int k = 0; k < n; k++) x.change(k, LAG, 6 * k);
-        return x;
-    }
-
     private static void goAllOver() {
         says("-12: what stood ahead was done.");
         Run x = clockwork();
@@ -395,25 +398,7 @@ public final class HostBoundsTest extends Check {
 
     private static void wouldBeTaken() {
         says("n (0 to 20) items likewise: what they would be WORTH. BAD: no such SHEET, n; -13; -11; then, by items, -12; STATE: one is no ACT, or it would be OVER ahead of it.");
-        Run x = clockwork();
-        x.ends(16);
-        for (int sheet = 0; sheet < 4; sheet++) x.sheet(sheet, 0, 20);
-        takes(x, 0, 3, sheet -> x.wouldBe(sheet, 0, 1));
-        takes(x, 0, 20, n -> x.wouldBe(0, 0, n));
-        takes(x, 0, 20, n -> x.wouldBe(3, 20, n));
-        for (int sort = 1; sort < 5; sort++) {
-            x.sheet(1, sort, 2);
-            for (int n : new int[] {0, 1, 3, 20}) {
-                for (int i : new int[] {0, -1, 2, FAR[1]}) refuses(x, OTHER, () -> x.wouldBe(1, i, n));
-            }
-            for (int n : new int[] {-1, 21}) refuses(x, BAD, () -> x.wouldBe(1, 0, n));
-        }
-        x.sheet(2, -1, 0);
-        for (int n : new int[] {0, 1, 20}) {
-            for (int i : new int[] {0, -1, 2, FAR[1]}) refuses(x, NOTHING, () -> x.wouldBe(2, i, n));
-        }
-        for (int n : new int[] {-1, 21}) refuses(x, BAD, () -> x.wouldBe(2, 0, n));
-        for (int n : new int[] {-1, 0, 1, 21}) refuses(x, BAD, () -> x.wouldBe(4, 0, n));
+        itemsTaken(Run::wouldBe);
     }
 
     private static void wouldBePlaces() {

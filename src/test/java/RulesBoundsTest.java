@@ -160,6 +160,11 @@ public final class RulesBoundsTest extends Check {
         is(-299, told(x, " ".repeat(199) + "z"));
         is(-100, told(x, "z".repeat(200)));
         is(-100, told(x, "9".repeat(200)));
+        for (char single : new char[] {'(', ')', ';', '=', '#'}) {
+            Run y = new Run();
+            is(-100, told(y, String.valueOf(single).repeat(200)));
+            is(-108, told(y, "low set;" + String.valueOf(single).repeat(192)));
+        }
         is(1, x.dialOf(4, WILL));
         is(1, told(x, "dial if " + "lag=99 or ".repeat(18) + " 3=3 argue;"));
         is(2, x.dialOf(0, WILL));
@@ -263,6 +268,11 @@ public final class RulesBoundsTest extends Check {
         told(x, "dial if number=5 and lag=99 and pride=9 keep; dial if number=0 and lag=0 and pride=0 argue;");
         int[] wills = {2, 0, 0, 0, 0, 1};
         for (int k = 0; k < 6; k++) is(wills[k], x.dialOf(k, WILL));
+        Run sun = ruled(one(NOON, 0, 0), "dial if sun=1 keep; dial if sun=2 argue; noon if sun>2 keep; noon if sun<1 argue;");
+        for (int v = 0; v < 16; v++) {
+            sun.sky(0, v);
+            is(v / 4 % 2 == 0 ? 2 : 1, sun.dialOf(0, WILL));
+        }
         Run y = ruled(one(NOON, 0, 0), "dial keep;");
         y.ends(16);
         for (int c = 0; c < 16; c++) y.sky(c, 4 * (c % 4) + 3);
@@ -345,6 +355,13 @@ public final class RulesBoundsTest extends Check {
             willBe(due, x, "not ".repeat(n) + "lag=0");
             if (n < 45) willBe(due, x, "not ".repeat(n) + "(lag=0)");
         }
+        Run y = one(NOON, 0, 0);
+        willBe(1, y, "0=0 and not 0=1");
+        willBe(0, y, "0=0 and not 0=0");
+        willBe(1, y, "0=1 or not (0=1 and not 0=1)");
+        willBe(0, y, "not (0=0 and not 0=1) or not 0=0");
+        willBe(1, y, "0=0 and (0=1 or (0=0 and (0=1 or not 0=1)))");
+        willBe(0, y, "0=0 and (0=1 or (0=0 and (0=1 or not 0=0)))");
     }
 
     /** At each kind of place, each word there is: those that can't stand there are the FAULT, behind the others more must come. */

@@ -115,6 +115,7 @@ public final class SquareBoundsTest extends Check {
             is(was, x.sky(0, v));
             is(v, x.state(5));
             is(8 - 2 * (v / 4), x.dialOf(0, SHADES));
+            is(8 - 2 * (v / 4), x.spotOf(1, 2));
             is(19 - v % 4, x.dialOf(1, SLIPS));
             was = v;
         }
@@ -142,6 +143,7 @@ public final class SquareBoundsTest extends Check {
 
     private static void spots() {
         says("SPOTS 0 to 5, in a row, each have a WALL, a BENCH (0 to 9; 0 at first).");
+        says("The WALL of a SPOT (what 0), its BENCH (1) becomes v: what it was. BAD.");
         Run x = new Run();
         for (int f = 0; f < 6; f++) {
             for (int w = 0; w < 3; w++) is(0, x.spotOf(f, w));
@@ -406,6 +408,7 @@ public final class SquareBoundsTest extends Check {
     }
 
     private static void argueHalf() {
+        says("Quotients are cut towards 0.");
         says("LAG is half of the difference (cut; its LAG less that one's) more; WORTH 1 for each where that isn't 0.");
         int[][] hisOthersHalf = {
             {20, 15, 2}, {20, 16, 2}, {20, 17, 1}, {20, 18, 1}, {20, 19, 0}, {20, 20, 0}, {20, 21, 0}, {20, 22, -1},
