@@ -28,7 +28,10 @@ public final class LanguageTest extends Check {
     public static void main(String[] args) throws Exception {
         face();
         nested();
-        words(Files.readString(Path.of(args[0]), StandardCharsets.ISO_8859_1));
+        String source = Files.readString(Path.of(args[0]), StandardCharsets.ISO_8859_1);
+        words(source);
+        shortMethods(source);
+        anyArguments();
         room();
         end("LanguageTest");
     }
@@ -101,6 +104,71 @@ public final class LanguageTest extends Check {
         for (Matcher i = Pattern.compile("import ([\\w.]+);").matcher(code); i.find(); ) imports.add(i.group(1));
         imports.removeAll(Set.of("java.util.Arrays", "java.util.ArrayList", "java.util.List"));
         is(0, imports.size());
+    }
+
+    /** Rule 11: a method ends some sixty lines behind its head, at most. */
+    private static void shortMethods(String source) {
+        String[] lines = source.split("\n");
+        int methods = 0;
+        for (int i = 0; i < lines.length; i++) {
+            Matcher m = Pattern.compile("^((?:    ){1,2})(?:\\w+[\\[\\]]* )*\\w+\\([^()]*\\) \\{$").matcher(lines[i]);
+            if (!m.matches() || lines[i].matches(" *(if|for|while|switch) .*")) continue;
+            int end = i + 1;
+            while (end < lines.length && !lines[end].equals(m.group(1) + "}")) end++;
+            holds(end - i <= 60);
+            methods++;
+        }
+        holds(methods > 150);
+    }
+
+    /** Rule 7: whatever is asked of whatever square, it answers. */
+    private static void anyArguments() throws Exception {
+        int[] some = {Integer.MIN_VALUE, Integer.MIN_VALUE + 1, -101, -2, -1, 0, 1, 2, 3, 5, 6, 14, 16, 20, 40, 99, 200, Integer.MAX_VALUE};
+        for (Method m : DialSquare.class.getDeclaredMethods()) {
+            if (Modifier.isPrivate(m.getModifiers())) continue;
+            Class<?>[] types = m.getParameterTypes();
+            int step = types.length < 3 ? 1 : types.length == 3 ? 5 : 7, all = 1;
+            for (int i = 0; i < types.length; i++) all *= some.length;
+            for (int state = 0; state < 4; state++) {
+                DialSquare x = stateOf(state);
+                for (int c = 0; c < all; c += step) {
+                    if (c % 300 < step) x = stateOf(state);
+                    Object[] arguments = new Object[types.length];
+                    for (int i = 0, rest = c; i < types.length; i++, rest /= some.length) {
+                        int v = some[rest % some.length];
+                        if (types[i] == long.class) arguments[i] = (long) v;
+                        else arguments[i] = v;
+                    }
+                    m.invoke(x, arguments);
+                }
+            }
+        }
+        holds(true);
+    }
+
+    /** Nothing, some of everything, as much as can be, and that when it is OVER. */
+    private static DialSquare stateOf(int state) {
+        DialSquare x = new DialSquare();
+        if (state == 0) return x;
+        for (int k = 0; k < 3 * Math.min(state, 2); k++) x.dial(1 + k % 5, 9 * k, k, 5 - k);
+        for (int c = 0; c < 16; c++) x.sky(c, 15 - c);
+        for (int i = 0; i < 4; i++) {
+            x.sheet(i, i == 3 ? 0 : i, state == 1 ? 3 : 40);
+            x.shelf(i, i % 2, i);
+        }
+        for (int r = 0; r < 3 * Math.min(state, 2); r++) x.report(r, r % 2, 3 * r, 90);
+        x.feed(0x7065656b20776f6cL, 8);
+        x.feed(0x3b, 1);
+        is(1, x.rules());
+        x.feed(0x6c616964, 4);
+        for (int i = 0; i < 24 && state > 1; i++) x.feed(0x2020202020202020L, 8);
+        if (state > 1) is(200, x.feed(0x2020202020202020L, 4));
+        x.prove(state == 1 ? 2 : 4);
+        x.act(0, 3, 5);
+        x.keep();
+        x.ends(16);
+        for (int c = 0; c < 16 && state == 3; c++) x.chime();
+        return x;
     }
 
     /** Objects that are called 512 times stay far within the room, of 7.3 million fields and elements, of a run of many. */
